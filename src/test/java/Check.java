@@ -1,0 +1,54 @@
+/** Counts the answers that are as due, and prints those that are not. */
+final class Check {
+
+    interface Call {
+        void run();
+    }
+
+    private static int right;
+    private static int wrong;
+
+    private Check() {
+    }
+
+    static void same(String call, long got, long due) {
+        note(got == due, call + " answered " + got + ", due is " + due);
+    }
+
+    static void same(String call, double got, double due) {
+        note(got == due, call + " answered " + got + ", due is " + due);
+    }
+
+    static void holds(String what, boolean holds) {
+        note(holds, what + " does not hold");
+    }
+
+    /** Checks that exactly this kind is thrown, and that the call has changed nothing. */
+    static void refuses(PumpOaths object, String call, Class<? extends RuntimeException> due, Call action) {
+        long before = object.digest();
+        Class<?> got = null;
+        try {
+            action.run();
+        } catch (RuntimeException e) {
+            got = e.getClass();
+        }
+        note(got == due, call + " threw " + got + ", due is " + due);
+        same(call + " left the digest", object.digest(), before);
+    }
+
+    static void close(String test) {
+        System.out.println(test + ": " + right + " answers right, " + wrong + " wrong");
+        if (wrong != 0) {
+            System.exit(1);
+        }
+    }
+
+    private static void note(boolean isRight, String complaint) {
+        if (isRight) {
+            right++;
+        } else {
+            wrong++;
+            System.out.println(complaint);
+        }
+    }
+}
