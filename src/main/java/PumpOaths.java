@@ -107,7 +107,9 @@ public final class PumpOaths {
             throw new IllegalArgumentException("oath is out of range");
         }
         save();
-        return now.pumps.change(pump, Pumps.OATH, oath);
+        int before = now.pumps.oath[pump];
+        now.pumps.oath[pump] = oath;
+        return before;
     }
 
     public boolean service(int pump, boolean service) throws IndexOutOfBoundsException, IllegalStateException {
@@ -118,7 +120,9 @@ public final class PumpOaths {
             throw new IllegalStateException("it is so already");
         }
         save();
-        return now.pumps.change(pump, Pumps.MODE, service ? Pumps.OFF : Pumps.OUT) == Pumps.ON;
+        boolean wasOn = now.pumps.mode[pump] == Pumps.ON;
+        now.pumps.mode[pump] = service ? Pumps.OFF : Pumps.OUT;
+        return wasOn;
     }
 
     public int pass(int minutes) throws IllegalArgumentException, IllegalStateException {
@@ -211,7 +215,7 @@ public final class PumpOaths {
         }
         trial.become(now);
         trial.letPass(minutes);
-        return trial.pumps.fact(pump, Pumps.STARTS) - now.pumps.fact(pump, Pumps.STARTS);
+        return trial.pumps.starts[pump] - now.pumps.starts[pump];
     }
 
     public int oathFor(int minutes) throws IllegalArgumentException {
@@ -228,7 +232,7 @@ public final class PumpOaths {
 
     public int emptyIn() {
         trial.become(now);
-        trial.pumps.changeAll(Pumps.MODE, Pumps.OUT);
+        trial.pumps.takeAllOut();
         for (int minutes = 0; minutes <= MOST_MINUTES; minutes++) {
             if (trial.level == 0) {
                 return minutes;
@@ -250,7 +254,7 @@ public final class PumpOaths {
     }
 
     public double honesty() {
-        int starts = now.pumps.total(Pumps.STARTS);
+        int starts = now.pumps.allStarts();
         if (starts == 0) {
             return 1.0;
         }
@@ -283,10 +287,9 @@ public final class PumpOaths {
         }
         save();
         for (int order = 0; order < text.orders; order++) {
-            if (!canCarryOut(order)) {
+            if (!carriesOut(order)) {
                 return order;
             }
-            carryOutOrder(order);
         }
         return text.orders;
     }
@@ -336,11 +339,11 @@ public final class PumpOaths {
     }
 
     private boolean isPump(int pump) {
-        return isIn(pump, 0, now.pumps.count - 1);
+        return now.pumps.has(pump);
     }
 
     private boolean isInService(int pump) {
-        return now.pumps.fact(pump, Pumps.MODE) != Pumps.OUT;
+        return isPump(pump) && now.pumps.mode[pump] != Pumps.OUT;
     }
 
     private boolean hasTimeFor(int minutes) {
@@ -349,7 +352,7 @@ public final class PumpOaths {
 
     private boolean wouldBeKept(int oath, int minutes) {
         trial.become(now);
-        trial.pumps.changeAll(Pumps.OATH, oath);
+        trial.pumps.swearAll(oath);
         for (int minute = 0; minute < minutes; minute++) {
             trial.passMinute();
             if (trial.brokenOaths != now.brokenOaths) {
@@ -359,42 +362,38 @@ public final class PumpOaths {
         return true;
     }
 
-    /** Tells whether the call that the order stands for would throw nothing. */
-    private boolean canCarryOut(int order) {
-        int subject = text.part(order, OrderText.SUBJECT);
-        switch (text.part(order, OrderText.LETTER)) {
-            case 'm':
-                return hasTimeFor(text.part(order, OrderText.NUMBER));
-            case 'o':
-                return isPump(subject);
-            case 'x':
-                return isPump(subject) && isInService(subject);
-            case 'y':
-                return isPump(subject) && !isInService(subject);
-            default:
-                return isHour(subject);
-        }
-    }
-
-    private void carryOutOrder(int order) {
+    /** Carries out one order, unless the call that it stands for would throw an exception. */
+    private boolean carriesOut(int order) {
         int subject = text.part(order, OrderText.SUBJECT);
         int number = text.part(order, OrderText.NUMBER);
         switch (text.part(order, OrderText.LETTER)) {
             case 'm':
+                if (!hasTimeFor(number)) {
+                    return false;
+                }
                 now.letPass(number);
-                break;
+                return true;
             case 'o':
-                now.pumps.change(subject, Pumps.OATH, number);
-                break;
+                if (!isPump(subject)) {
+                    return false;
+                }
+                now.pumps.oath[subject] = number;
+                return true;
             case 'x':
-                now.pumps.change(subject, Pumps.MODE, Pumps.OUT);
-                break;
+                if (!isPump(subject) || !isInService(subject)) {
+                    return false;
+                }
+                now.pumps.mode[subject] = Pumps.OUT;
+                return true;
             case 'y':
-                now.pumps.change(subject, Pumps.MODE, Pumps.OFF);
-                break;
+                if (!isPump(subject) || isInService(subject)) {
+                    return false;
+                }
+                now.pumps.mode[subject] = Pumps.OFF;
+                return true;
             default:
                 now.changeDemand(subject, number);
-                break;
+                return true;
         }
     }
 
@@ -532,7 +531,7 @@ public final class PumpOaths {
                 balanceAtDusk = balance();
             }
             if (time % HOUR == 0) {
-                pumps.changeAll(Pumps.HOUR_STARTS, 0);
+                pumps.beginHour();
             }
             int started = switchPumps();
             moveWater();
@@ -566,8 +565,12 @@ public final class PumpOaths {
                 return NONE;
             }
             int pump = pumps.nextToStart(settings[FORCE] == 1);
-            if (pump != NONE) {
-                start(pump);
+            if (!pumps.has(pump)) {
+                return NONE;
+            }
+            if (pumps.start(pump)) {
+                brokenOaths++;
+                log.put(pump, time, pumps.hourStarts[pump]);
             }
             return pump;
         }
@@ -580,16 +583,6 @@ public final class PumpOaths {
                 }
             }
             return stages;
-        }
-
-        private void start(int pump) {
-            boolean breaks = !pumps.mayStart(pump);
-            pumps.start(pump);
-            if (breaks) {
-                brokenOaths++;
-                pumps.increase(pump, Pumps.BROKEN);
-                log.put(pump, time, pumps.fact(pump, Pumps.HOUR_STARTS));
-            }
         }
 
         private void moveWater() {
@@ -629,102 +622,121 @@ public final class PumpOaths {
         }
     }
 
-    /** The pumps in one row of facts. A pump knows its place, so that no order has to be kept beside it. */
+    /** The pumps in rows. Each one knows its place, so that no order has to be kept beside them. */
     private static final class Pumps {
 
         static final int MOST = 6;
         static final int FACTS = 8;
 
-        static final int CAPACITY = 0;
-        static final int OATH = 1;
-        static final int MODE = 2;
-        static final int PLACE = 3;
-        static final int HOUR_STARTS = 4;
-        static final int STARTS = 5;
-        static final int MINUTES = 6;
-        static final int BROKEN = 7;
-
         static final int OFF = 0;
         static final int ON = 1;
         static final int OUT = 2;
 
-        private final int[] facts = new int[MOST * FACTS];
         int count;
+        final int[] capacity = new int[MOST];
+        final int[] oath = new int[MOST];
+        final int[] mode = new int[MOST];
+        final int[] place = new int[MOST];
+        final int[] hourStarts = new int[MOST];
+        final int[] starts = new int[MOST];
+        final int[] minutes = new int[MOST];
+        final int[] broken = new int[MOST];
 
         void become(Pumps other) {
             count = other.count;
-            System.arraycopy(other.facts, 0, facts, 0, MOST * FACTS);
+            System.arraycopy(other.capacity, 0, capacity, 0, MOST);
+            System.arraycopy(other.oath, 0, oath, 0, MOST);
+            System.arraycopy(other.mode, 0, mode, 0, MOST);
+            System.arraycopy(other.place, 0, place, 0, MOST);
+            System.arraycopy(other.hourStarts, 0, hourStarts, 0, MOST);
+            System.arraycopy(other.starts, 0, starts, 0, MOST);
+            System.arraycopy(other.minutes, 0, minutes, 0, MOST);
+            System.arraycopy(other.broken, 0, broken, 0, MOST);
         }
 
-        int fact(int pump, int what) {
-            int index = pump * FACTS + what;
-            return index >= 0 && index < facts.length ? facts[index] : 0;
+        boolean has(int pump) {
+            return pump >= 0 && pump < count;
         }
 
-        /** Answers what the fact was before. */
-        int change(int pump, int what, int value) {
-            int before = fact(pump, what);
-            int index = pump * FACTS + what;
-            if (index >= 0 && index < facts.length) {
-                facts[index] = value;
-            }
-            return before;
-        }
-
-        void increase(int pump, int what) {
-            change(pump, what, fact(pump, what) + 1);
-        }
-
-        void changeAll(int what, int value) {
-            for (int pump = 0; pump < count; pump++) {
-                change(pump, what, value);
-            }
-        }
-
-        int join(int capacity, int oath) {
+        /** The rows behind the last pump still hold what a new one begins with: nothing but zeros. */
+        int join(int newCapacity, int newOath) {
             int pump = count;
-            for (int what = 0; what < FACTS; what++) {
-                change(pump, what, 0);
+            if (pump >= MOST) {
+                return NONE;
             }
-            change(pump, CAPACITY, capacity);
-            change(pump, OATH, oath);
-            change(pump, PLACE, pump);
+            capacity[pump] = newCapacity;
+            oath[pump] = newOath;
+            place[pump] = pump;
             count++;
             return pump;
         }
 
-        int countIn(int mode) {
+        int fact(int pump, int what) {
+            if (!has(pump)) {
+                return 0;
+            }
+            switch (what) {
+                case 0: return capacity[pump];
+                case 1: return oath[pump];
+                case 2: return mode[pump];
+                case 3: return place[pump];
+                case 4: return hourStarts[pump];
+                case 5: return starts[pump];
+                case 6: return minutes[pump];
+                default: return broken[pump];
+            }
+        }
+
+        int countIn(int wantedMode) {
             int found = 0;
             for (int pump = 0; pump < count; pump++) {
-                if (fact(pump, MODE) == mode) {
+                if (mode[pump] == wantedMode) {
                     found++;
                 }
             }
             return found;
         }
 
-        int total(int what) {
+        int allStarts() {
             int sum = 0;
             for (int pump = 0; pump < count; pump++) {
-                sum += fact(pump, what);
+                sum += starts[pump];
             }
             return sum;
         }
 
         int lead() {
             for (int pump = 0; pump < count; pump++) {
-                if (fact(pump, PLACE) == 0) {
+                if (place[pump] == 0) {
                     return pump;
                 }
             }
             return NONE;
         }
 
+        void swearAll(int newOath) {
+            for (int pump = 0; pump < count; pump++) {
+                oath[pump] = newOath;
+            }
+        }
+
+        void takeAllOut() {
+            for (int pump = 0; pump < count; pump++) {
+                mode[pump] = OUT;
+            }
+        }
+
+        void beginHour() {
+            for (int pump = 0; pump < count; pump++) {
+                hourStarts[pump] = 0;
+            }
+        }
+
         void stopAll() {
             boolean stopped = false;
             for (int pump = 0; pump < count; pump++) {
-                if (fact(pump, MODE) == ON) {
-                    change(pump, MODE, OFF);
+                if (mode[pump] == ON) {
+                    mode[pump] = OFF;
                     stopped = true;
                 }
             }
@@ -735,8 +747,7 @@ public final class PumpOaths {
 
         private void passLeadOn() {
             for (int pump = 0; pump < count; pump++) {
-                int place = fact(pump, PLACE);
-                change(pump, PLACE, place == 0 ? count - 1 : place - 1);
+                place[pump] = place[pump] == 0 ? count - 1 : place[pump] - 1;
             }
         }
 
@@ -749,33 +760,37 @@ public final class PumpOaths {
             int first = NONE;
             int firstPlace = MOST;
             for (int pump = 0; pump < count; pump++) {
-                boolean fits = fact(pump, MODE) == OFF && (!keepingOath || mayStart(pump));
-                if (fits && fact(pump, PLACE) < firstPlace) {
+                boolean fits = !keepingOath || hourStarts[pump] < oath[pump];
+                if (mode[pump] == OFF && fits && place[pump] < firstPlace) {
                     first = pump;
-                    firstPlace = fact(pump, PLACE);
+                    firstPlace = place[pump];
                 }
             }
             return first;
         }
 
-        /** Tells whether its oath lets the pump start once more in this hour. */
-        boolean mayStart(int pump) {
-            return fact(pump, HOUR_STARTS) < fact(pump, OATH);
-        }
-
-        void start(int pump) {
-            change(pump, MODE, ON);
-            increase(pump, HOUR_STARTS);
-            increase(pump, STARTS);
+        /** Answers whether the pump breaks its oath with it. */
+        boolean start(int pump) {
+            if (!has(pump)) {
+                return false;
+            }
+            boolean breaks = hourStarts[pump] >= oath[pump];
+            mode[pump] = ON;
+            hourStarts[pump]++;
+            starts[pump]++;
+            if (breaks) {
+                broken[pump]++;
+            }
+            return breaks;
         }
 
         /** Answers what the pumps that are on pump in a minute. */
         int runMinute() {
             int pumped = 0;
             for (int pump = 0; pump < count; pump++) {
-                if (fact(pump, MODE) == ON) {
-                    increase(pump, MINUTES);
-                    pumped += fact(pump, CAPACITY);
+                if (mode[pump] == ON) {
+                    minutes[pump]++;
+                    pumped += capacity[pump];
                 }
             }
             return pumped;
@@ -783,8 +798,10 @@ public final class PumpOaths {
 
         long digestOnto(long start) {
             long hash = start;
-            for (int index = 0; index < count * FACTS && index < facts.length; index++) {
-                hash = 31 * hash + facts[index];
+            for (int pump = 0; pump < count; pump++) {
+                for (int what = 0; what < FACTS; what++) {
+                    hash = 31 * hash + fact(pump, what);
+                }
             }
             return hash;
         }

@@ -263,6 +263,15 @@ public final class StationTest {
         Check.same("below the low level at its end", y.value(10), 1);
         y.setBand(7000, 8000);
         Check.same("not counted again under the new band", y.value(10), 1);
+        y.setBand(5000, 8000);
+        y.set(1, 0);
+        y.service(0, false);
+        y.setLevel(5020);
+        y.pass(1);
+        values(y, 8000, 5000, 5000);
+        Check.same("at the low level is not below it", y.value(10), 1);
+        y.pass(1);
+        Check.same("below it", y.value(10), 2);
     }
 
     private static void bandSwitches() {

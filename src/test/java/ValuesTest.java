@@ -16,6 +16,7 @@ public final class ValuesTest {
         nightLeak();
         nightSeesCalls();
         nightGoesBackWithUndo();
+        nightGoesBackByANight();
         entry();
         Check.close("ValuesTest");
     }
@@ -184,6 +185,25 @@ public final class ValuesTest {
         x.pass(400);
         Check.same("the night began before the undone call", x.nightLeak(), 800);
         Check.same("nights", x.value(12), 1);
+    }
+
+    /** Goes back behind the beginning of a later night, and behind its end. */
+    private static void nightGoesBackByANight() {
+        PumpOaths x = new PumpOaths();
+        x.setSize(100000);
+        x.setLevel(100000);
+        x.set(1, 1);
+        x.pass(1400);
+        x.pass(1440);
+        x.undo();
+        x.pass(400);
+        Check.same("the earlier night is measured from its own beginning", x.nightLeak(), 480);
+        x.pass(960);
+        x.set(1, 2);
+        x.pass(480);
+        Check.same("the later night", x.nightLeak(), 960);
+        x.undo();
+        Check.same("the earlier night is the latest one again", x.nightLeak(), 480);
     }
 
     private static void entry() {
