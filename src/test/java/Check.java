@@ -1,5 +1,11 @@
+import java.util.function.LongSupplier;
+
 /** Counts the answers that are as due, and prints those that are not. */
 final class Check {
+
+    static final Class<IllegalArgumentException> ARGUMENT = IllegalArgumentException.class;
+    static final Class<IllegalStateException> STATE = IllegalStateException.class;
+    static final Class<IndexOutOfBoundsException> INDEX = IndexOutOfBoundsException.class;
 
     interface Call {
         void run();
@@ -19,13 +25,24 @@ final class Check {
         note(got == due, call + " answered " + got + ", due is " + due);
     }
 
+    static void same(String call, String got, String due) {
+        note(got.equals(due), call + " answered " + got + ", due is " + due);
+    }
+
     static void holds(String what, boolean holds) {
         note(holds, what + " does not hold");
     }
 
-    /** Checks that exactly this kind is thrown, and that the call has changed nothing. */
-    static void refuses(PumpOaths object, String call, Class<? extends RuntimeException> due, Call action) {
-        long before = object.digest();
+    /** The answer, or the name of what was thrown in its place. */
+    static String answer(LongSupplier call) {
+        try {
+            return "" + call.getAsLong();
+        } catch (RuntimeException e) {
+            return "throws." + e.getClass().getSimpleName();
+        }
+    }
+
+    static void throwing(String call, Class<? extends RuntimeException> due, Call action) {
         Class<?> got = null;
         try {
             action.run();
@@ -33,6 +50,12 @@ final class Check {
             got = e.getClass();
         }
         note(got == due, call + " threw " + got + ", due is " + due);
+    }
+
+    /** Checks that exactly this kind is thrown, and that the call has changed nothing that the digest sees. */
+    static void refuses(PumpOaths object, String call, Class<? extends RuntimeException> due, Call action) {
+        long before = object.digest();
+        throwing(call, due, action);
         same(call + " left the digest", object.digest(), before);
     }
 

@@ -1,8 +1,6 @@
 /** Promises 27 and 28: undo and digest. */
 public final class StateTest {
 
-    private static final Class<IllegalStateException> STATE = IllegalStateException.class;
-
     public static void main(String[] args) {
         undo();
         undoBringsEverythingBack();
@@ -14,7 +12,7 @@ public final class StateTest {
 
     private static void undo() {
         PumpOaths x = new PumpOaths();
-        Check.refuses(x, "undo()", STATE, () -> x.undo());
+        Check.refuses(x, "undo()", Check.STATE, () -> x.undo());
         for (int level = 1; level <= 6; level++) {
             x.setLevel(level);
         }
@@ -22,7 +20,7 @@ public final class StateTest {
             Check.same("undo()", x.undo(), left);
             Check.same("level", x.value(1), left + 2);
         }
-        Check.refuses(x, "the oldest ones are dropped", STATE, () -> x.undo());
+        Check.refuses(x, "the oldest ones are dropped", Check.STATE, () -> x.undo());
         x.setLevel(2);
         Check.same("a call that changes nothing is saved, too", x.undo(), 0);
     }

@@ -1,10 +1,6 @@
 /** Promises 1 to 10: a new object, the settings, the pumps, and what happens when minutes pass. */
 public final class StationTest {
 
-    private static final Class<IllegalArgumentException> ARGUMENT = IllegalArgumentException.class;
-    private static final Class<IllegalStateException> STATE = IllegalStateException.class;
-    private static final Class<IndexOutOfBoundsException> INDEX = IndexOutOfBoundsException.class;
-
     private static final int HUGE = Integer.MAX_VALUE;
     private static final int TINY = Integer.MIN_VALUE;
 
@@ -56,7 +52,7 @@ public final class StationTest {
         for (int what = 0; what < 5; what++) {
             Check.same("water", x.water(what), 0);
         }
-        Check.refuses(x, "undo of a new object", STATE, () -> x.undo());
+        Check.refuses(x, "undo of a new object", Check.STATE, () -> x.undo());
     }
 
     private static void setSize() {
@@ -65,15 +61,15 @@ public final class StationTest {
         Check.same("setSize(100000)", x.setSize(100000), 8000);
         Check.same("value(0)", x.value(0), 100000);
         for (int size : new int[] {99, 100001, 0, -1, HUGE, TINY}) {
-            Check.refuses(x, "setSize out of range", ARGUMENT, () -> x.setSize(size));
+            Check.refuses(x, "setSize out of range", Check.ARGUMENT, () -> x.setSize(size));
         }
-        Check.refuses(x, "setSize under the band", STATE, () -> x.setSize(7999));
+        Check.refuses(x, "setSize under the band", Check.STATE, () -> x.setSize(7999));
         x.setBand(1, 2);
-        Check.refuses(x, "setSize under the level", STATE, () -> x.setSize(4999));
+        Check.refuses(x, "setSize under the level", Check.STATE, () -> x.setSize(4999));
         Check.same("setSize at the level", x.setSize(5000), 100000);
         x.setLevel(100);
         x.setBand(99, 101);
-        Check.refuses(x, "setSize under the high level", STATE, () -> x.setSize(100));
+        Check.refuses(x, "setSize under the high level", Check.STATE, () -> x.setSize(100));
         x.setBand(99, 100);
         Check.same("the least size", x.setSize(100), 5000);
     }
@@ -84,10 +80,10 @@ public final class StationTest {
         Check.same("setBand(9, 10000)", x.setBand(9, 10000), 1);
         values(x, 10000, 5000, 9, 10000);
         for (int[] band : new int[][] {{0, 5}, {-1, 5}, {5, 5}, {6, 5}, {TINY, HUGE}, {20000, 20000}, {HUGE, TINY}}) {
-            Check.refuses(x, "setBand of no band", ARGUMENT, () -> x.setBand(band[0], band[1]));
+            Check.refuses(x, "setBand of no band", Check.ARGUMENT, () -> x.setBand(band[0], band[1]));
         }
-        Check.refuses(x, "setBand above the size", STATE, () -> x.setBand(1, 10001));
-        Check.refuses(x, "setBand far above the size", STATE, () -> x.setBand(1, HUGE));
+        Check.refuses(x, "setBand above the size", Check.STATE, () -> x.setBand(1, 10001));
+        Check.refuses(x, "setBand far above the size", Check.STATE, () -> x.setBand(1, HUGE));
         Check.same("the undo takes one call back", x.undo(), 1);
         values(x, 10000, 5000, 1, 2);
     }
@@ -96,10 +92,10 @@ public final class StationTest {
         PumpOaths x = new PumpOaths();
         Check.same("setLevel(0)", x.setLevel(0), 5000);
         Check.same("setLevel(10000)", x.setLevel(10000), 0);
-        Check.refuses(x, "setLevel(-1)", ARGUMENT, () -> x.setLevel(-1));
-        Check.refuses(x, "setLevel least", ARGUMENT, () -> x.setLevel(TINY));
-        Check.refuses(x, "setLevel(10001)", STATE, () -> x.setLevel(10001));
-        Check.refuses(x, "setLevel greatest", STATE, () -> x.setLevel(HUGE));
+        Check.refuses(x, "setLevel(-1)", Check.ARGUMENT, () -> x.setLevel(-1));
+        Check.refuses(x, "setLevel least", Check.ARGUMENT, () -> x.setLevel(TINY));
+        Check.refuses(x, "setLevel(10001)", Check.STATE, () -> x.setLevel(10001));
+        Check.refuses(x, "setLevel greatest", Check.STATE, () -> x.setLevel(HUGE));
         Check.same("value(1)", x.value(1), 10000);
         Check.same("no water moved", x.water(0) + x.water(1) + x.water(2) + x.water(3) + x.water(4), 0);
         Check.same("undo", x.undo(), 1);
@@ -116,12 +112,12 @@ public final class StationTest {
             Check.same("set least", x.set(what, least[what]), first[what]);
             Check.same("set greatest", x.set(what, greatest[what]), least[what]);
             Check.same("setting", x.setting(what), greatest[what]);
-            Check.refuses(x, "set below", ARGUMENT, () -> x.set(what, least[what] - 1));
-            Check.refuses(x, "set above", ARGUMENT, () -> x.set(what, greatest[what] + 1));
+            Check.refuses(x, "set below", Check.ARGUMENT, () -> x.set(what, least[what] - 1));
+            Check.refuses(x, "set above", Check.ARGUMENT, () -> x.set(what, greatest[what] + 1));
         }
-        Check.refuses(x, "set(-1, 1)", ARGUMENT, () -> x.set(-1, 1));
-        Check.refuses(x, "set(3, 1)", ARGUMENT, () -> x.set(3, 1));
-        Check.refuses(x, "set(HUGE, 1)", ARGUMENT, () -> x.set(HUGE, 1));
+        Check.refuses(x, "set(-1, 1)", Check.ARGUMENT, () -> x.set(-1, 1));
+        Check.refuses(x, "set(3, 1)", Check.ARGUMENT, () -> x.set(3, 1));
+        Check.refuses(x, "set(HUGE, 1)", Check.ARGUMENT, () -> x.set(HUGE, 1));
         Check.same("undo", x.undo(), 3);
         Check.same("setting(2) is as before", x.setting(2), 0);
     }
@@ -133,10 +129,10 @@ public final class StationTest {
         Check.same("setDemand(23, 7)", x.setDemand(23, 7), 20);
         Check.same("demand(23)", x.demand(23), 7);
         Check.same("demand(22)", x.demand(22), 20);
-        Check.refuses(x, "setDemand(24, 0)", INDEX, () -> x.setDemand(24, 0));
-        Check.refuses(x, "setDemand(-1, 1001)", INDEX, () -> x.setDemand(-1, 1001));
-        Check.refuses(x, "setDemand(0, 1001)", ARGUMENT, () -> x.setDemand(0, 1001));
-        Check.refuses(x, "setDemand(0, -1)", ARGUMENT, () -> x.setDemand(0, -1));
+        Check.refuses(x, "setDemand(24, 0)", Check.INDEX, () -> x.setDemand(24, 0));
+        Check.refuses(x, "setDemand(-1, 1001)", Check.INDEX, () -> x.setDemand(-1, 1001));
+        Check.refuses(x, "setDemand(0, 1001)", Check.ARGUMENT, () -> x.setDemand(0, 1001));
+        Check.refuses(x, "setDemand(0, -1)", Check.ARGUMENT, () -> x.setDemand(0, -1));
         Check.same("undo", x.undo(), 2);
         Check.same("demand(23)", x.demand(23), 20);
     }
@@ -148,13 +144,13 @@ public final class StationTest {
         pump(x, 0, 1, 1, 0, 0, 0, 0, 0, 0);
         pump(x, 1, 500, 12, 0, 1, 0, 0, 0, 0);
         for (int[] wrong : new int[][] {{0, 1}, {501, 1}, {1, 0}, {1, 13}, {TINY, HUGE}}) {
-            Check.refuses(x, "addPump out of range", ARGUMENT, () -> x.addPump(wrong[0], wrong[1]));
+            Check.refuses(x, "addPump out of range", Check.ARGUMENT, () -> x.addPump(wrong[0], wrong[1]));
         }
         for (int number = 2; number < 6; number++) {
             Check.same("addPump", x.addPump(10, 2), number);
         }
-        Check.refuses(x, "a seventh pump", STATE, () -> x.addPump(10, 2));
-        Check.refuses(x, "a seventh wrong pump", ARGUMENT, () -> x.addPump(0, 2));
+        Check.refuses(x, "a seventh pump", Check.STATE, () -> x.addPump(10, 2));
+        Check.refuses(x, "a seventh wrong pump", Check.ARGUMENT, () -> x.addPump(0, 2));
         Check.same("pumps", x.value(4), 6);
         Check.same("undo", x.undo(), 3);
         Check.same("pumps", x.value(4), 5);
@@ -164,37 +160,37 @@ public final class StationTest {
 
     private static void swear() {
         PumpOaths x = new PumpOaths();
-        Check.refuses(x, "swear without pumps", INDEX, () -> x.swear(0, 13));
+        Check.refuses(x, "swear without pumps", Check.INDEX, () -> x.swear(0, 13));
         x.addPump(10, 5);
         Check.same("swear(0, 1)", x.swear(0, 1), 5);
         Check.same("swear(0, 12)", x.swear(0, 12), 1);
         Check.same("pump(0, 1)", x.pump(0, 1), 12);
-        Check.refuses(x, "swear(-1, 1)", INDEX, () -> x.swear(-1, 1));
-        Check.refuses(x, "swear(1, 1)", INDEX, () -> x.swear(1, 1));
-        Check.refuses(x, "swear(0, 0)", ARGUMENT, () -> x.swear(0, 0));
-        Check.refuses(x, "swear(0, 13)", ARGUMENT, () -> x.swear(0, 13));
+        Check.refuses(x, "swear(-1, 1)", Check.INDEX, () -> x.swear(-1, 1));
+        Check.refuses(x, "swear(1, 1)", Check.INDEX, () -> x.swear(1, 1));
+        Check.refuses(x, "swear(0, 0)", Check.ARGUMENT, () -> x.swear(0, 0));
+        Check.refuses(x, "swear(0, 13)", Check.ARGUMENT, () -> x.swear(0, 13));
         Check.same("undo", x.undo(), 2);
         Check.same("pump(0, 1)", x.pump(0, 1), 1);
     }
 
     private static void service() {
         PumpOaths x = new PumpOaths();
-        Check.refuses(x, "service without pumps", INDEX, () -> x.service(0, true));
+        Check.refuses(x, "service without pumps", Check.INDEX, () -> x.service(0, true));
         x.addPump(10, 5);
         x.addPump(10, 5);
-        Check.refuses(x, "service(-1, true)", INDEX, () -> x.service(-1, true));
-        Check.refuses(x, "service(2, false)", INDEX, () -> x.service(2, false));
-        Check.refuses(x, "service of one in service", STATE, () -> x.service(0, true));
+        Check.refuses(x, "service(-1, true)", Check.INDEX, () -> x.service(-1, true));
+        Check.refuses(x, "service(2, false)", Check.INDEX, () -> x.service(2, false));
+        Check.refuses(x, "service of one in service", Check.STATE, () -> x.service(0, true));
         Check.holds("an off pump was not on", !x.service(0, false));
         values(x, 10000, 5000, 4000, 8000, 2, 0, 1);
         Check.same("pump(0, 2)", x.pump(0, 2), 2);
         Check.same("it keeps its place", x.pump(0, 3), 0);
-        Check.refuses(x, "service of one out of service", STATE, () -> x.service(0, false));
+        Check.refuses(x, "service of one out of service", Check.STATE, () -> x.service(0, false));
         Check.holds("one out of service was not on", !x.service(0, true));
         Check.same("pump(0, 2)", x.pump(0, 2), 0);
         x.setLevel(0);
         x.pass(1);
-        Check.refuses(x, "service of one that is on", STATE, () -> x.service(0, true));
+        Check.refuses(x, "service of one that is on", Check.STATE, () -> x.service(0, true));
         Check.holds("one that is on was on", x.service(0, false));
         values(x, 10000, 0, 4000, 8000, 2, 0, 1);
         Check.same("its starts stay", x.pump(0, 4), 1);
@@ -205,7 +201,7 @@ public final class StationTest {
     private static void passRefuses() {
         PumpOaths x = new PumpOaths();
         for (int minutes : new int[] {0, -1, 1441, HUGE, TINY}) {
-            Check.refuses(x, "pass out of range", ARGUMENT, () -> x.pass(minutes));
+            Check.refuses(x, "pass out of range", Check.ARGUMENT, () -> x.pass(minutes));
         }
         Check.same("pass(1440)", x.pass(1440), 0);
         Check.same("the time", x.value(7), 1440);
@@ -221,12 +217,12 @@ public final class StationTest {
         }
         Check.same("the last carryOut stops", x.carryOut(), 8);
         Check.same("the time", x.value(7), 999360);
-        Check.refuses(x, "pass(641)", STATE, () -> x.pass(641));
-        Check.refuses(x, "pass(1441)", ARGUMENT, () -> x.pass(1441));
+        Check.refuses(x, "pass(641)", Check.STATE, () -> x.pass(641));
+        Check.refuses(x, "pass(1441)", Check.ARGUMENT, () -> x.pass(1441));
         Check.same("pass(640)", x.pass(640), 0);
         Check.same("the greatest time", x.value(7), 1000000);
         Check.same("its hour", x.value(8), 1000000 / 60 % 24);
-        Check.refuses(x, "pass(1)", STATE, () -> x.pass(1));
+        Check.refuses(x, "pass(1)", Check.STATE, () -> x.pass(1));
         x.setLevel(5000);
         Check.same("questions go beyond it", x.levelIn(10), 4800);
         Check.same("no order fits any more", Texts.carryOut(x, "m1;"), 0);

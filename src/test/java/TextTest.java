@@ -1,9 +1,6 @@
 /** Promises 24 to 26: the text and its orders. */
 public final class TextTest {
 
-    private static final Class<IllegalArgumentException> ARGUMENT = IllegalArgumentException.class;
-    private static final Class<IllegalStateException> STATE = IllegalStateException.class;
-
     public static void main(String[] args) {
         append();
         clearText();
@@ -17,14 +14,14 @@ public final class TextTest {
 
     private static void append() {
         PumpOaths x = new PumpOaths();
-        Check.refuses(x, "append(-1)", ARGUMENT, () -> x.append(-1));
-        Check.refuses(x, "append(128)", ARGUMENT, () -> x.append(128));
+        Check.refuses(x, "append(-1)", Check.ARGUMENT, () -> x.append(-1));
+        Check.refuses(x, "append(128)", Check.ARGUMENT, () -> x.append(128));
         for (int i = 1; i <= 100; i++) {
             Check.same("append", x.append(i == 1 ? 0 : 127), i);
         }
-        Check.refuses(x, "a byte too many", STATE, () -> x.append(0));
-        Check.refuses(x, "a wrong byte too many", ARGUMENT, () -> x.append(128));
-        Check.refuses(x, "append saves nothing", STATE, () -> x.undo());
+        Check.refuses(x, "a byte too many", Check.STATE, () -> x.append(0));
+        Check.refuses(x, "a wrong byte too many", Check.ARGUMENT, () -> x.append(128));
+        Check.refuses(x, "append saves nothing", Check.STATE, () -> x.undo());
     }
 
     private static void clearText() {
@@ -151,6 +148,6 @@ public final class TextTest {
         Check.same("demand(0)", x.demand(0), 20);
         Check.same("the text is not undone", x.clearText(), 12);
         Check.same("a syntax error", Texts.carryOut(x, "m5;q"), -13);
-        Check.refuses(x, "a syntax error saves nothing", STATE, () -> x.undo());
+        Check.refuses(x, "a syntax error saves nothing", Check.STATE, () -> x.undo());
     }
 }

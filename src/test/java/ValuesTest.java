@@ -1,10 +1,6 @@
 /** Promises 11 to 17: what can be read. */
 public final class ValuesTest {
 
-    private static final Class<IllegalArgumentException> ARGUMENT = IllegalArgumentException.class;
-    private static final Class<IllegalStateException> STATE = IllegalStateException.class;
-    private static final Class<IndexOutOfBoundsException> INDEX = IndexOutOfBoundsException.class;
-
     private static final int[] OUTSIDE = {-1, Integer.MIN_VALUE, Integer.MAX_VALUE};
 
     public static void main(String[] args) {
@@ -23,7 +19,7 @@ public final class ValuesTest {
 
     private static void pump() {
         PumpOaths x = new PumpOaths();
-        Check.refuses(x, "pump(0, 8) without pumps", INDEX, () -> x.pump(0, 8));
+        Check.refuses(x, "pump(0, 8) without pumps", Check.INDEX, () -> x.pump(0, 8));
         x.addPump(321, 7);
         x.addPump(9, 2);
         x.setLevel(3999);
@@ -32,11 +28,11 @@ public final class ValuesTest {
         for (int what = 0; what < 8; what++) {
             Check.same("pump(0, " + what + ")", x.pump(0, what), due[what]);
         }
-        Check.refuses(x, "pump(2, 0)", INDEX, () -> x.pump(2, 0));
-        Check.refuses(x, "pump(0, 8)", ARGUMENT, () -> x.pump(0, 8));
+        Check.refuses(x, "pump(2, 0)", Check.INDEX, () -> x.pump(2, 0));
+        Check.refuses(x, "pump(0, 8)", Check.ARGUMENT, () -> x.pump(0, 8));
         for (int wrong : OUTSIDE) {
-            Check.refuses(x, "pump of no pump", INDEX, () -> x.pump(wrong, wrong));
-            Check.refuses(x, "pump of no what", ARGUMENT, () -> x.pump(1, wrong));
+            Check.refuses(x, "pump of no pump", Check.INDEX, () -> x.pump(wrong, wrong));
+            Check.refuses(x, "pump of no what", Check.ARGUMENT, () -> x.pump(1, wrong));
         }
     }
 
@@ -46,9 +42,9 @@ public final class ValuesTest {
         Check.same("demand(5)", x.demand(5), 55);
         Check.same("demand(0)", x.demand(0), 20);
         Check.same("demand(23)", x.demand(23), 20);
-        Check.refuses(x, "demand(24)", INDEX, () -> x.demand(24));
+        Check.refuses(x, "demand(24)", Check.INDEX, () -> x.demand(24));
         for (int wrong : OUTSIDE) {
-            Check.refuses(x, "demand of no hour", INDEX, () -> x.demand(wrong));
+            Check.refuses(x, "demand of no hour", Check.INDEX, () -> x.demand(wrong));
         }
     }
 
@@ -68,9 +64,9 @@ public final class ValuesTest {
         for (int what = 0; what < 14; what++) {
             Check.same("value(" + what + ")", x.value(what), due[what]);
         }
-        Check.refuses(x, "value(14)", ARGUMENT, () -> x.value(14));
+        Check.refuses(x, "value(14)", Check.ARGUMENT, () -> x.value(14));
         for (int wrong : OUTSIDE) {
-            Check.refuses(x, "value of no what", ARGUMENT, () -> x.value(wrong));
+            Check.refuses(x, "value of no what", Check.ARGUMENT, () -> x.value(wrong));
         }
     }
 
@@ -82,9 +78,9 @@ public final class ValuesTest {
         Check.same("setting(0)", x.setting(0), 77);
         Check.same("setting(1)", x.setting(1), 88);
         Check.same("setting(2)", x.setting(2), 0);
-        Check.refuses(x, "setting(3)", ARGUMENT, () -> x.setting(3));
+        Check.refuses(x, "setting(3)", Check.ARGUMENT, () -> x.setting(3));
         for (int wrong : OUTSIDE) {
-            Check.refuses(x, "setting of no what", ARGUMENT, () -> x.setting(wrong));
+            Check.refuses(x, "setting of no what", Check.ARGUMENT, () -> x.setting(wrong));
         }
     }
 
@@ -97,9 +93,9 @@ public final class ValuesTest {
         for (int what = 0; what < 5; what++) {
             Check.same("water(" + what + ")", x.water(what), due[what]);
         }
-        Check.refuses(x, "water(5)", ARGUMENT, () -> x.water(5));
+        Check.refuses(x, "water(5)", Check.ARGUMENT, () -> x.water(5));
         for (int wrong : OUTSIDE) {
-            Check.refuses(x, "water of no what", ARGUMENT, () -> x.water(wrong));
+            Check.refuses(x, "water of no what", Check.ARGUMENT, () -> x.water(wrong));
         }
 
         PumpOaths y = new PumpOaths();
@@ -126,12 +122,12 @@ public final class ValuesTest {
         x.setSize(100000);
         x.setLevel(100000);
         x.set(1, 3);
-        Check.refuses(x, "nightLeak before a night", STATE, () -> x.nightLeak());
+        Check.refuses(x, "nightLeak before a night", Check.STATE, () -> x.nightLeak());
         x.pass(360);
         Check.same("the night of the time 0 is not whole", x.value(12), 0);
         x.pass(1440 - 1);
         Check.same("one minute is missing", x.value(12), 0);
-        Check.refuses(x, "nightLeak in the night", STATE, () -> x.nightLeak());
+        Check.refuses(x, "nightLeak in the night", Check.STATE, () -> x.nightLeak());
         x.pass(1);
         Check.same("measured", x.value(12), 1);
         Check.same("nightLeak()", x.nightLeak(), 480 * 3);
@@ -179,7 +175,7 @@ public final class ValuesTest {
         x.pass(400);
         Check.same("400 minutes with a leak", x.nightLeak(), 400);
         Check.same("undo", x.undo(), 3);
-        Check.refuses(x, "nightLeak after an undo", STATE, () -> x.nightLeak());
+        Check.refuses(x, "nightLeak after an undo", Check.STATE, () -> x.nightLeak());
         Check.same("nights", x.value(12), 0);
         x.set(1, 2);
         x.pass(400);
@@ -208,7 +204,7 @@ public final class ValuesTest {
 
     private static void entry() {
         PumpOaths x = new PumpOaths();
-        Check.refuses(x, "entry(0, 3) of an empty log", INDEX, () -> x.entry(0, 3));
+        Check.refuses(x, "entry(0, 3) of an empty log", Check.INDEX, () -> x.entry(0, 3));
         x.setBand(100, 101);
         x.setLevel(50);
         x.setDemand(0, 200);
@@ -217,7 +213,7 @@ public final class ValuesTest {
         x.pass(24);
         Check.same("entries", x.value(13), 11);
         Check.same("the oldest", x.entry(10, 1), 2);
-        Check.refuses(x, "entry(11, 0)", INDEX, () -> x.entry(11, 0));
+        Check.refuses(x, "entry(11, 0)", Check.INDEX, () -> x.entry(11, 0));
         x.pass(6);
         Check.same("no more than 12 are kept", x.value(13), 12);
         for (int index = 0; index < 12; index++) {
@@ -226,11 +222,11 @@ public final class ValuesTest {
             Check.same("starts of " + index, x.entry(index, 2), 15 - index);
         }
         Check.same("broken so far", x.value(9), 14);
-        Check.refuses(x, "entry(12, 0)", INDEX, () -> x.entry(12, 0));
-        Check.refuses(x, "entry(0, 3)", ARGUMENT, () -> x.entry(0, 3));
+        Check.refuses(x, "entry(12, 0)", Check.INDEX, () -> x.entry(12, 0));
+        Check.refuses(x, "entry(0, 3)", Check.ARGUMENT, () -> x.entry(0, 3));
         for (int wrong : OUTSIDE) {
-            Check.refuses(x, "entry of no index", INDEX, () -> x.entry(wrong, wrong));
-            Check.refuses(x, "entry of no what", ARGUMENT, () -> x.entry(11, wrong));
+            Check.refuses(x, "entry of no index", Check.INDEX, () -> x.entry(wrong, wrong));
+            Check.refuses(x, "entry of no what", Check.ARGUMENT, () -> x.entry(11, wrong));
         }
         x.undo();
         Check.same("the log goes back", x.value(13), 11);

@@ -1,9 +1,6 @@
 /** Promises 18 to 23: the questions, which change nothing. */
 public final class WhatIfTest {
 
-    private static final Class<IllegalArgumentException> ARGUMENT = IllegalArgumentException.class;
-    private static final Class<IndexOutOfBoundsException> INDEX = IndexOutOfBoundsException.class;
-
     private static final int[] NO_MINUTES = {-1, 1441, Integer.MIN_VALUE, Integer.MAX_VALUE};
 
     public static void main(String[] args) {
@@ -40,7 +37,7 @@ public final class WhatIfTest {
         x.pass(1440);
         Check.same("it comes as it was told", x.value(1), due);
         for (int wrong : NO_MINUTES) {
-            Check.refuses(x, "levelIn out of range", ARGUMENT, () -> x.levelIn(wrong));
+            Check.refuses(x, "levelIn out of range", Check.ARGUMENT, () -> x.levelIn(wrong));
         }
     }
 
@@ -53,10 +50,10 @@ public final class WhatIfTest {
         Check.same("startsIn(0, 56)", x.startsIn(0, 56), 14);
         Check.same("startsIn(1, 56)", x.startsIn(1, 56), 14);
         Check.holds("over a day", x.startsIn(1, 1440) >= 14);
-        Check.refuses(x, "startsIn(2, 1)", INDEX, () -> x.startsIn(2, 1));
-        Check.refuses(x, "startsIn(-1, -1)", INDEX, () -> x.startsIn(-1, -1));
+        Check.refuses(x, "startsIn(2, 1)", Check.INDEX, () -> x.startsIn(2, 1));
+        Check.refuses(x, "startsIn(-1, -1)", Check.INDEX, () -> x.startsIn(-1, -1));
         for (int wrong : NO_MINUTES) {
-            Check.refuses(x, "startsIn out of range", ARGUMENT, () -> x.startsIn(0, wrong));
+            Check.refuses(x, "startsIn out of range", Check.ARGUMENT, () -> x.startsIn(0, wrong));
         }
     }
 
@@ -74,9 +71,9 @@ public final class WhatIfTest {
         Check.same("one of them is out", y.oathFor(25), PumpOaths.NONE);
         y.set(2, 0);
         Check.same("without force no oath is ever broken", y.oathFor(1440), 1);
-        Check.refuses(x, "oathFor(0)", ARGUMENT, () -> x.oathFor(0));
+        Check.refuses(x, "oathFor(0)", Check.ARGUMENT, () -> x.oathFor(0));
         for (int wrong : NO_MINUTES) {
-            Check.refuses(x, "oathFor out of range", ARGUMENT, () -> x.oathFor(wrong));
+            Check.refuses(x, "oathFor out of range", Check.ARGUMENT, () -> x.oathFor(wrong));
         }
         Check.same("without pumps", new PumpOaths().oathFor(1440), 1);
     }
