@@ -96,10 +96,11 @@ public final class FaceTest {
             Check.holds(method + " has a name of its own", !isPrivate || !names.contains(method.getName()));
         }
         for (Class<?> inside : PumpOaths.class.getDeclaredClasses()) {
-            Check.holds(inside + " is static and hidden", Modifier.isStatic(inside.getModifiers())
-                    && Modifier.isPrivate(inside.getModifiers()));
+            Check.holds(inside + " is hidden", !Modifier.isPublic(inside.getModifiers())
+                    && !Modifier.isProtected(inside.getModifiers()));
             for (Method method : inside.getDeclaredMethods()) {
-                Check.holds(method + " has a name of its own", !names.contains(method.getName()));
+                boolean isPrivate = Modifier.isPrivate(method.getModifiers());
+                Check.holds(method + " has a name of its own", !isPrivate || !names.contains(method.getName()));
             }
         }
     }

@@ -13,6 +13,7 @@ public final class TextEdgeTest {
         fullText();
         fullTextOfOrders();
         noOrders();
+        shorterTextAfterALongerOne();
         minutes();
         oaths();
         pumps();
@@ -114,6 +115,22 @@ public final class TextEdgeTest {
         Check.same("no orders", x.carryOut(), 0);
         Check.same("one more saved state", x.digest(), before + 1);
         Check.same("undo", x.undo(), 0);
+    }
+
+    /** "Empties the text": nothing of a longer text stands behind a shorter one. */
+    private static void shorterTextAfterALongerOne() {
+        for (String order : new String[] {"m12;", "o0=12;", "x0;", "d00=1000;"}) {
+            for (int length = 0; length < order.length(); length++) {
+                PumpOaths x = sixPumps();
+                Texts.write(x, order + "m1;");
+                Check.same("two orders", x.carryOut(), 2);
+                String left = order.substring(0, length);
+                Check.same("what is left of " + order, Texts.carryOut(x, left), length == 0 ? 0 : -10 - length);
+                Check.same("time", x.value(7), order.equals("m12;") ? 13 : 1);
+                Check.same("one order less", Texts.carryOut(x, "m5;"), 1);
+                Check.same("time", x.value(7), order.equals("m12;") ? 18 : 6);
+            }
+        }
     }
 
     /** "m" and a number of minutes of one to three digits, 1 to 720 */

@@ -11,6 +11,7 @@ public final class UndoEdgeTest {
         savedByEachUndoable();
         notSavedByTheOthers();
         everythingComesBack();
+        whatWasNotThereIsGoneAgain();
         allButTheText();
         undoIsNoUndoableCall();
         undoOfAPump();
@@ -175,6 +176,33 @@ public final class UndoEdgeTest {
             x.undo();
             return x;
         }, Made::busy);
+    }
+
+    /** Pumps, starts, a log, a night: all that a new object does not have. */
+    private static void whatWasNotThereIsGoneAgain() {
+        Probe.same("undo back to a new object", () -> {
+            PumpOaths x = new PumpOaths();
+            x.addPump(400, 1);
+            x.setBand(1, 2);
+            Check.same("orders", Texts.carryOut(x, "m720;d00=999;m720;o0=2;m720;x0;m1;"), 7);
+            Check.holds("a log", x.value(13) > 0);
+            Check.same("a night", x.value(12), 1);
+            x.clearText();
+            x.setLevel(1);
+            Check.same("undo", x.undo() + x.undo() + x.undo() + x.undo(), 3 + 2 + 1);
+            return x;
+        }, PumpOaths::new);
+        PumpOaths x = Made.still();
+        x.addPump(1, 1);
+        for (int start = 1; start <= 5; start++) {
+            Made.restart(x);
+        }
+        Check.same("entries", x.value(13), 4);
+        Check.same("the last start", x.undo(), 3);
+        Check.same("entries", x.value(13), 3);
+        Check.same("the latest one", x.entry(0, 2), 4);
+        Check.refuses(x, "the one that was undone", Check.INDEX, () -> x.entry(3, 0));
+        Check.same("broken so far", x.value(9), 3);
     }
 
     private static void allButTheText() {
