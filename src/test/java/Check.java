@@ -11,8 +11,17 @@ final class Check {
         void run();
     }
 
+    /** A test takes seconds: one that goes on so long is held up by a call that does not end. */
+    private static final int MOST_SECONDS = 240;
+
     private static int right;
     private static int wrong;
+
+    static {
+        Thread guard = new Thread(Check::endAfterAll);
+        guard.setDaemon(true);
+        guard.start();
+    }
 
     private Check() {
     }
@@ -64,6 +73,16 @@ final class Check {
         if (wrong != 0) {
             System.exit(1);
         }
+    }
+
+    private static void endAfterAll() {
+        try {
+            Thread.sleep(1000L * MOST_SECONDS);
+        } catch (InterruptedException e) {
+            return;
+        }
+        System.out.println("a call has not ended in " + MOST_SECONDS + " seconds");
+        Runtime.getRuntime().halt(1);
     }
 
     private static void note(boolean isRight, String complaint) {

@@ -12,8 +12,8 @@ final class Made {
     }
 
     static void passTo(PumpOaths x, int time) {
-        while (x.value(7) < time) {
-            x.pass(Math.min(1440, time - x.value(7)));
+        for (int left = time - x.value(7); left > 0; left -= 1440) {
+            x.pass(Math.min(1440, left));
         }
     }
 
